@@ -2,7 +2,7 @@ import java.util.Random;
 
 /** All promises: long runs of drawn calls, held against the plain borough. */
 public final class LikeThePlainBoroughTest {
-    private final Check check = new Check("LikeThePlainBoroughTest");
+    private static final Check CHECK = new Check("LikeThePlainBoroughTest");
     private final Random random;
     private final RatedBySighs x = new RatedBySighs();
     private final PlainBorough y = new PlainBorough();
@@ -13,22 +13,23 @@ public final class LikeThePlainBoroughTest {
 
     public static void main(String[] args) {
         int runs = args.length > 0 ? Integer.parseInt(args[0]) : 1500;
-        for (int run = 0; run < runs; run++) {
+        boolean failed = false;
+        // Behind a wrong answer the two go apart: the first run that has one is the last.
+        for (int run = 0; run < runs && !failed; run++) {
             LikeThePlainBoroughTest test = new LikeThePlainBoroughTest(run);
             for (int i = 0; i < 150; i++) {
                 test.step("run " + run + " step " + i + ": ");
             }
-            if (run == runs - 1 || test.failed) {
-                test.check.end();
-            }
+            failed = test.failed;
         }
+        CHECK.end();
     }
 
     private boolean failed = false;
 
     private void same(String call, long got, long want) {
         failed |= got != want;
-        check.due(call, got, want);
+        CHECK.due(call, got, want);
     }
 
     /** Mostly within, at times just outside, seldom far away. */
