@@ -13,6 +13,7 @@ public final class BestTest {
         fewRefuses();
         move();
         change();
+        eight();
         CHECK.end();
     }
 
@@ -104,6 +105,10 @@ public final class BestTest {
         CHECK.due("another one's sighs stay", x.few(0, 15), 62);
         x.set(2, 0, 4);
         CHECK.due("in the house where one lives", x.few(0, 14), 2);
+        x = Check.ruled("sighs 5;moods 0;pays mood;");
+        x.tenant(0, 0, 0);
+        CHECK.due("all hours", x.few(0, 0), 63);
+        CHECK.due("five hours", x.few(0, 9), 31);
     }
 
     private static void fewRefuses() {
@@ -160,5 +165,24 @@ public final class BestTest {
         best("the lesser number first", x.change(0), x.change(1), 2, 72);
         x.set(1, 0, 5);
         best("numbers 1 and 2", x.change(0), x.change(1), 12, 138);
+    }
+
+    private static void eight() {
+        RatedBySighs x = Check.ruled("sighs number*house;moods 0;pays mood;");
+        for (int i = 0; i < 7; i++) {
+            x.tenant(0, 0, 0);
+        }
+        x.tenant(0, 9, 4);
+        best("the last one moves", x.move(0), x.move(1), 70, 0);
+        best("the last one changes", x.change(0), x.change(1), 7, 0);
+        best("the last one is out", x.cart(0), x.cart(1), 70, 180);
+        CHECK.due("the last one's hours", x.few(7, 100), 15);
+        best("no fool of eight", x.cheer(0), x.cheer(1), -1, 216);
+        x = new RatedBySighs();
+        for (int i = 0; i < 7; i++) {
+            x.tenant(0, 0, 1);
+        }
+        x.tenant(5, 0, 0);
+        best("the last one is the fool", x.cheer(0), x.cheer(1), 71, 105);
     }
 }

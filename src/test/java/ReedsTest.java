@@ -116,6 +116,10 @@ public final class ReedsTest {
         CHECK.due("in an empty house any", x.tells(0, 1, 0, 5), 0);
         Check.row(x, 0, 2, 0, 0, 0, 0, 0, 0);
         CHECK.due("in an empty house any", x.tells(0, 1, 0, 5), 41);
+        x.force(Check.text(x, "sighs mood=20;moods 0;pays 0;"));
+        Check.row(x, 0, 2, 1, 1, 1, 1, 1, 1);
+        CHECK.due("the highest", x.tells(0, 0, 0, 6), 20);
+        CHECK.due("the highest alone", x.tells(0, 0, 0, 5), 1);
     }
 
     private static void outs() {
@@ -131,6 +135,10 @@ public final class ReedsTest {
         CHECK.due("no way", x.tells(0, 0, 0, 7), 0);
         CHECK.due("none", x.tells(0, 0, 0, 8), -1);
         CHECK.due("out as before", x.told(0, 4), 7);
+        x.force(Check.text(x, "sighs 1;moods 0;pays 0;"));
+        Check.row(x, 0, 2, 0, 0, 0, 0, 0, 0);
+        CHECK.due("out in all hours", x.tells(0, 0, 0, 8), 63);
+        CHECK.due("out in all hours alone", x.tells(0, 0, 0, 7), 1);
     }
 
     private static void sortsOfSheets() {
@@ -183,6 +191,11 @@ public final class ReedsTest {
         CHECK.due("kept as it was", x.tells(1, 3, 0, 0), 1);
         CHECK.due("of a missing sheet", x.film(3, 0), 6);
         CHECK.due("an empty house", x.tells(3, 0, 0, 0), -1);
+        x.film(3, 3);
+        CHECK.due("in mood 20", x.tells(3, 3, 0, 0), -1);
+        x.set(3, 0, 2);
+        CHECK.due("9 in each hour", x.film(3, 3), 6);
+        CHECK.due("9 in each hour", x.tells(3, 3, 0, 0), -1);
         int[][] bad = {{-1, 0}, {4, 0}, {0, -1}, {0, 5}, {FAR, 0}, {0, DEEP}};
         for (int[] b : bad) {
             CHECK.due("bad film", x.film(b[0], b[1]), -2);
@@ -209,6 +222,15 @@ public final class ReedsTest {
         }
         CHECK.due("the mood stays", x.told(0, 3), 3);
         CHECK.due("the mood stays", x.told(1, 3), -3);
+        x = new RatedBySighs();
+        for (int i = 0; i < 8; i++) {
+            x.tenant(5, 0, 0);
+            x.set(3, i, i);
+        }
+        CHECK.due("eight drawn", x.drawn(1), 0);
+        for (int i = 0; i < 8; i++) {
+            CHECK.due("each mood stays", x.told(i, 3), i);
+        }
     }
 
     private static void chance() {
@@ -272,6 +294,14 @@ public final class ReedsTest {
         CHECK.due("back to the new one", x.back(), 3);
         CHECK.due("its mood", x.told(0, 3), 11);
         CHECK.due("its night", x.count(2), 500);
+        for (int i = 3; i < 8; i++) {
+            x.tenant(5, i, 0);
+        }
+        CHECK.due("eight, six of them fools", x.count(1), 6);
+        CHECK.due("an image of eight", x.image(), 8);
+        x.set(1, 7, 1);
+        CHECK.due("back to eight", x.back(), 8);
+        CHECK.due("the last one's number", x.told(7, 1), 7);
     }
 
     private static void imageLeavesTheRest() {

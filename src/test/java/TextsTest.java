@@ -48,6 +48,13 @@ public final class TextsTest {
         CHECK.due("of 159 bytes", Check.text(x, ones + ";"), 4);
         x.force(4);
         CHECK.due("its sum", x.due(0), 68);
+        CHECK.due("a full tape that ends in a word", Check.text(x, " ".repeat(155) + "sighs"), -260);
+        CHECK.due("a full tape that ends in a number", Check.text(x, "sighs" + " ".repeat(154) + "7"), -260);
+        CHECK.due("a full tape that ends in a blank", Check.text(x, "sighs 7" + " ".repeat(153)), -260);
+        CHECK.due("a longer tape", Check.text(x, "sighsmoods"), -100);
+        CHECK.due("what stood behind is gone", Check.text(x, "sighs"), -105);
+        CHECK.due("a longer tape", Check.text(x, "sighs 123456"), -106);
+        CHECK.due("what stood behind is gone", Check.text(x, "sighs 123"), -109);
     }
 
     private static void fullOfTexts() {
@@ -85,6 +92,11 @@ public final class TextsTest {
         fault("sighs |?;moods 0;pays 0;");
         fault("sighs |moo;moods 0;pays 0;");
         fault("sighs |moodhour;moods 0;pays 0;");
+        fault("sighs |food;moods 0;pays 0;");
+        fault("sighs |moodz;moods 0;pays 0;");
+        fault("sighs |moaod;moods 0;pays 0;");
+        fault("sighs |mooe;moods 0;pays 0;");
+        fault("|zighs 1;moods 0;pays 0;");
         fault("sighs |12345;moods 0;pays 0;");
         fault("sighs |00000;moods 0;pays 0;");
         fault("sighs |" + "9".repeat(120) + ";");
@@ -173,11 +185,11 @@ public final class TextsTest {
     private static void worths() {
         String[] es = {"7", "0012", "9999", "2+3*4", "(2+3)*4", "9-3-2", "9-(3-2)", "2*3*4", "-3+5", "3--2", "-(2-9)",
             "1<2", "2<1", "2<2", "2=2", "2=3", "5 or 0", "0 or 0", "0 or -3", "4 and 6", "4 and 0", "not 0", "not 7",
-            "not not 7", "not 1=2", "not 2=2", "not 0 and 0", "not (0 and 0)", "1 or 0 and 0", "(1 or 0) and 0",
+            "not not 7", "1 and 1", "0 and 5", "5 and 1", "1 or 1", "0 or 1", "not 1", "not 1=2", "not 2=2", "not 0 and 0", "not (0 and 0)", "1 or 0 and 0", "(1 or 0) and 0",
             "1+1<1+2", "3*(2<5)+1", "(1<2)+(2<3)", "(4)", "0-1", "1<-1", "-1<1"};
         int[] due = {7, 12, 9999, 14, 20, 4, 8, 24, 2, 5, 7,
             1, 0, 0, 1, 0, 1, 0, 1, 1, 0, 1, 0,
-            1, 1, 0, 0, 1, 1, 0,
+            1, 1, 0, 1, 1, 1, 0, 1, 0, 0, 1, 1, 0,
             1, 4, 2, 4, 0, 0, 1};
         for (int i = 0; i < es.length; i++) {
             CHECK.due("worth of " + es[i], worth(es[i]), due[i]);
