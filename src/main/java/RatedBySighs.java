@@ -40,7 +40,7 @@ public final class RatedBySighs {
     private final Evening evening = new Evening();
     private final Borough borough = evening.borough;
     private final Texts texts = evening.texts;
-    private final Reader reader = texts.reader;
+    private final Reader reader = new Reader();
     private final Borough kept = new Borough();
     private boolean hasImage = false;
     private final Best best = new Best();
@@ -51,6 +51,12 @@ public final class RatedBySighs {
         for (int i = 0; i < SHEETS; i++) {
             sheets[i] = new Sheet();
         }
+        for (int i = 0; i < FIRST_TEXT.length(); i++) {
+            reader.append(FIRST_TEXT.charAt(i));
+        }
+        // Read here and not where the texts are made: so the calls stay eight deep.
+        reader.takesTape();
+        texts.keep(reader);
     }
 
     // ---- people
@@ -124,8 +130,7 @@ public final class RatedBySighs {
         if (texts.size >= TEXTS) {
             return FULL;
         }
-        int number = texts.size;
-        return texts.takesTape() ? number : FAULT - reader.start;
+        return reader.takesTape() ? texts.keep(reader) : FAULT - reader.start;
     }
 
     public int force(int text) {
@@ -767,25 +772,16 @@ public final class RatedBySighs {
         private final int[][] starts = new int[TEXTS][PARTS + 1];
         private final int[] names = new int[NAMES];
         private final int[] stack = new int[TAPE];
-        private final Reader reader = new Reader();
         private int size = 0;
 
-        private Texts() {
-            for (int i = 0; i < FIRST_TEXT.length(); i++) {
-                reader.append(FIRST_TEXT.charAt(i));
+        private int keep(Reader reader) {
+            if (size >= TEXTS) {
+                return FULL;
             }
-            takesTape();
-        }
-
-        private boolean takesTape() {
-            boolean stands = size < TEXTS && reader.readsText();
-            reader.size = 0;
-            if (stands) {
-                System.arraycopy(reader.code, 0, code[size], 0, TAPE);
-                System.arraycopy(reader.starts, 0, starts[size], 0, PARTS + 1);
-                size++;
-            }
-            return stands;
+            System.arraycopy(reader.code, 0, code[size], 0, TAPE);
+            System.arraycopy(reader.starts, 0, starts[size], 0, PARTS + 1);
+            size++;
+            return size - 1;
         }
 
         private void mean(int mood, int hour, int number, int others, int house, int fools) {
@@ -853,18 +849,18 @@ public final class RatedBySighs {
             return true;
         }
 
-        private boolean readsText() {
+        private boolean takesTape() {
             at = 0;
             length = 0;
             next();
-            for (int part = 0; part < PARTS; part++) {
+            boolean stands = true;
+            for (int part = 0; part < PARTS && stands; part++) {
                 starts[part] = length;
-                if (!passes(SIGHS_KEY + part) || !either(0) || !passes(STOP)) {
-                    return false;
-                }
+                stands = passes(SIGHS_KEY + part) && either(0) && passes(STOP);
             }
             starts[PARTS] = length;
-            return token == END;
+            size = 0;
+            return stands && token == END;
         }
 
         private boolean passes(int wanted) {
