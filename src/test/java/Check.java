@@ -3,16 +3,22 @@ final class Check {
     private final String test;
     private int wrong = 0;
     private int calls = 0;
+    private String sentence = "";
 
     Check(String test) {
         this.test = test;
+    }
+
+    /** What is checked from here on is what the document says by this sentence. */
+    void says(String sentence) {
+        this.sentence = sentence + " -- ";
     }
 
     void due(String call, long got, long want) {
         calls++;
         if (got != want) {
             wrong++;
-            System.out.println(test + ": " + call + " answered " + got + ", due is " + want);
+            System.out.println(test + ": " + sentence + call + " answered " + got + ", due is " + want);
         }
     }
 
