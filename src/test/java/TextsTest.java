@@ -48,9 +48,10 @@ public final class TextsTest {
         CHECK.due("of 159 bytes", Check.text(x, ones + ";"), 4);
         x.force(4);
         CHECK.due("its sum", x.due(0), 68);
-        CHECK.due("a full tape that ends in a word", Check.text(x, " ".repeat(155) + "sighs"), -260);
-        CHECK.due("a full tape that ends in a number", Check.text(x, "sighs" + " ".repeat(154) + "7"), -260);
-        CHECK.due("a full tape that ends in a blank", Check.text(x, "sighs 7" + " ".repeat(153)), -260);
+        CHECK.due("a full tape that ends in a word", Check.text(new RatedBySighs(), " ".repeat(155) + "sighs"), -260);
+        CHECK.due("a full tape that ends in a number", Check.text(new RatedBySighs(), "sighs" + " ".repeat(154) + "7"), -260);
+        CHECK.due("a full tape that ends in a blank", Check.text(new RatedBySighs(), "sighs 7" + " ".repeat(153)), -260);
+        x = new RatedBySighs();
         CHECK.due("a longer tape", Check.text(x, "sighsmoods"), -100);
         CHECK.due("what stood behind is gone", Check.text(x, "sighs"), -105);
         CHECK.due("a longer tape", Check.text(x, "sighs 123456"), -106);
