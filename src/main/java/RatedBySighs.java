@@ -62,7 +62,7 @@ public final class RatedBySighs {
     // ---- people
 
     public int set(int what, int of, int v) {
-        if (what < NIGHT || what > OUT || !mayBe(what, v)) {
+        if (what > OUT || !mayBe(what, v)) {
             return NONE_SUCH;
         }
         if (what == NIGHT) {
@@ -422,7 +422,7 @@ public final class RatedBySighs {
     // ---- tests of numbers
 
     private static boolean mayBe(int what, int v) {
-        return v >= LOWEST[what] && v <= HIGHEST[what];
+        return what >= NIGHT && what <= KIND && v >= LOWEST[what] && v <= HIGHEST[what];
     }
 
     private static boolean isZeroOrOne(int what) {
